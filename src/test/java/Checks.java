@@ -1,0 +1,56 @@
+/** Counts answers that are due and those that are not, and ends a test with exit code 1 if there was one. */
+final class Checks {
+    private int passed = 0;
+    private int failed = 0;
+
+    void due(String call, long got, long want) {
+        tell(got == want, call + " answered " + got + ", due is " + want);
+    }
+
+    void due(String call, boolean got, boolean want) {
+        tell(got == want, call + " answered " + got + ", due is " + want);
+    }
+
+    /** The call has to throw just this exception, none of a class below it. */
+    void refuses(String call, Class<? extends RuntimeException> want, Runnable run) {
+        Class<?> got = null;
+        try {
+            run.run();
+        } catch (RuntimeException e) {
+            got = e.getClass();
+        }
+        tell(got == want, call + " threw " + got + ", due is " + want);
+    }
+
+    void noIndex(String call, Runnable run) {
+        refuses(call, IndexOutOfBoundsException.class, run);
+    }
+
+    void noNumber(String call, Runnable run) {
+        refuses(call, IllegalArgumentException.class, run);
+    }
+
+    void noRoom(String call, Runnable run) {
+        refuses(call, UnsupportedOperationException.class, run);
+    }
+
+    void noSuch(String call, Runnable run) {
+        refuses(call, java.util.NoSuchElementException.class, run);
+    }
+
+    void tell(boolean isRight, String otherwise) {
+        if (isRight) {
+            passed++;
+        } else {
+            failed++;
+            System.out.println(otherwise);
+        }
+    }
+
+    void end(String name) {
+        System.out.println(name + ": " + passed + " answers as due, " + failed + " not");
+        if (failed > 0 || passed == 0) {
+            System.exit(1);
+        }
+    }
+}

@@ -342,6 +342,11 @@ final class CartsTest {
         CHECKS.due("90 and 90", x.load(0, 3), 1);
         x.gate(0, 100);
         CHECKS.due("90 and 100, tolerance 0", x.load(0, 3), 0);
+        tips(x, 1, 10, 200000, 200000, 100500);
+        x.gate(1, 1000);
+        CHECKS.due("1001 and 1000, tolerance 0", x.load(1, 3), 0);
+        x.terms(0, 1);
+        CHECKS.due("1001 and 1000, tolerance 1", x.load(1, 3), 1);
         x.terms(0, 99);
         CHECKS.due("tolerance 99", x.load(0, 3), 0);
         x.terms(0, 100);
@@ -358,5 +363,7 @@ final class CartsTest {
         x.gate(0, 44);
         CHECKS.due("tolerance 1000, above the double", x.load(0, 3), 0);
         CHECKS.due("the other cart's day", x.load(1, 3), 1);
+        x.close();
+        CHECKS.due("the next day", x.load(0, 3), 1);
     }
 }

@@ -460,6 +460,17 @@ final class ChargesTest {
         CHECKS.due("all weights are 0", x.charge(2), 0);
         CHECKS.due("and nobody's", x.share(2, 1), 0);
         CHECKS.due("all charges", x.count(6), 306);
+        x.bin(3, 0, 20);
+        x.part(5, 2, 1, 3);
+        x.part(3, 1, 1, 3);
+        x.tip(0, 13, 0);
+        x.tip(0, 20, 0);
+        x.close();
+        CHECKS.due("another shared one's weights", x.share(3, 2), 0);
+        CHECKS.due("its own", x.share(3, 1), 300);
+        CHECKS.due("and the other's", x.share(4, 2), 300);
+        CHECKS.due("sum of 1", x.charged(1), 606);
+        CHECKS.due("sum of 2", x.charged(2), 300);
     }
 
     private static void promise25Charged() {

@@ -11,15 +11,23 @@ final class Checks {
         tell(got == want, call + " answered " + got + ", due is " + want);
     }
 
-    /** The call has to throw just this exception, none of a class below it. */
+    /** The call has to throw just this exception, none of a class below it, and the program itself has to throw it. */
     void refuses(String call, Class<? extends RuntimeException> want, Runnable run) {
         Class<?> got = null;
+        boolean own = true;
         try {
             run.run();
         } catch (RuntimeException e) {
             got = e.getClass();
+            own = isThrownByProgram(e);
         }
-        tell(got == want, call + " threw " + got + ", due is " + want);
+        tell(got == want && own, call + " threw " + got + (own ? "" : " in the library") + ", due is " + want);
+    }
+
+    /** False where the library threw: a list, say, whose size was not asked. */
+    static boolean isThrownByProgram(Throwable e) {
+        StackTraceElement[] calls = e.getStackTrace();
+        return calls.length > 0 && calls[0].getClassName().split("\\$")[0].equals("BinRounds");
     }
 
     void noIndex(String call, Runnable run) {

@@ -138,6 +138,10 @@ final class RoundsTest {
         CHECKS.due("day 0 is free again", x.when(0, 0, 1), 7);
         x.round(0, 0, 0, 2);
         CHECKS.due("no round, not late", x.when(0, 0, 1), NONE);
+        x.holiday(0, true);
+        CHECKS.due("day 0 is a holiday", x.when(0, 1, 0), 3);
+        x.holiday(6, true);
+        CHECKS.due("the week's last day moves nothing", x.when(0, 2, 0), 5);
     }
 
     private static void promise30Due() {

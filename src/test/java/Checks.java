@@ -46,6 +46,17 @@ final class Checks {
         refuses(call, java.util.NoSuchElementException.class, run);
     }
 
+    /** Of two tellings that differ the first line that does is shown. */
+    void same(String name, java.util.List<String> got, java.util.List<String> want) {
+        int at = 0;
+        while (at < got.size() && at < want.size() && got.get(at).equals(want.get(at))) {
+            at++;
+        }
+        String gotLine = at < got.size() ? got.get(at) : "the end";
+        String wantLine = at < want.size() ? want.get(at) : "the end";
+        tell(got.equals(want), name + ": told is " + gotLine + ", due is " + wantLine);
+    }
+
     void tell(boolean isRight, String otherwise) {
         if (isRight) {
             passed++;

@@ -47,7 +47,9 @@ final class EdgesOfDaysTest {
         dueInItsWeekOrTheThreeBehind();
         dueFromTheOpenDayOn();
         dueBehindWeek99();
+        aboutAHouse();
         binsOfAHouseToday();
+        stateOfABin();
         CHECKS.end("EdgesOfDaysTest");
     }
 
@@ -247,6 +249,9 @@ final class EdgesOfDaysTest {
         CHECKS.due("the next week", x.when(0, 0, 3), 23);
         x.holiday(16, false);
         CHECKS.due("the week's day 0 alone", x.when(0, 0, 2), 17);
+        x.holiday(0, true);
+        CHECKS.due("day 0 is a holiday as others are", x.when(0, 1, 0), 1);
+        CHECKS.due("and moves weekday 2", x.when(0, 0, 0), 3);
     }
 
     // "it is LATE, on no day, if that would be behind day 5."
@@ -679,7 +684,47 @@ final class EdgesOfDaysTest {
         CHECKS.due("on the last day", x.due(0), 701);
     }
 
-    // about(): "2 how many BINS it has on the day that is OPEN (by their MOVES)"; "another what."
+    // about(): "0 its STREET, 1 its BANDS"
+    private static void aboutAHouse() {
+        BinRounds x = streets(10);
+        for (int house = 0; house < 10; house++) {
+            x.house(9 - house);
+        }
+        x.band(3, 2);
+        for (int house = 0; house < 10; house++) {
+            CHECKS.due("street of " + house, x.about(house, 0), 9 - house);
+            CHECKS.due("bands of " + house, x.about(house, 1), house == 3 ? 2 : 0);
+            CHECKS.due("bins of " + house, x.about(house, 2), 0);
+        }
+        for (int what : new int[] {-1, 3, MIN, MAX}) {
+            CHECKS.noSuch("about what " + what, () -> x.about(0, what));
+        }
+    }
+
+    // state(): "0 KIND, 1 1 if it bears a MARK, 2 that MARK (0 without one), 3 the HOUSE that has it on the day that
+    // is OPEN, 4 WRONGS, 5 MOVES, 6 PARTS."
+    private static void stateOfABin() {
+        BinRounds x = houses(2);
+        x.bin(3, 1, -7);
+        x.part(0, 0, 1, 0);
+        x.part(0, 1, 1, 0);
+        x.move(0, 0, 1);
+        int[] due = {3, 1, -7, 1, 0, 2, 2};
+        int[] bare = {3, 0, 0, 0, 0, 2, 2};
+        for (int what = 0; what <= 6; what++) {
+            CHECKS.due("state what " + what, x.state(0, what), due[what]);
+        }
+        x.lost(0);
+        x.close();
+        for (int what = 0; what <= 6; what++) {
+            CHECKS.due("later, state what " + what, x.state(0, what), bare[what]);
+        }
+        for (int what : new int[] {-1, 7, MIN, MAX}) {
+            CHECKS.noSuch("state what " + what, () -> x.state(0, what));
+        }
+    }
+
+    // about(): "2 how many BINS it has on the day that is OPEN (by their MOVES)"
     private static void binsOfAHouseToday() {
         BinRounds x = houses(2);
         CHECKS.due("none", x.about(0, 2), 0);
@@ -693,9 +738,5 @@ final class EdgesOfDaysTest {
         x.close();
         CHECKS.due("one has moved today", x.about(0, 2), 1);
         CHECKS.due("to this one", x.about(1, 2), 1);
-        CHECKS.noSuch("about what 3", () -> x.about(0, 3));
-        CHECKS.noSuch("about what -1", () -> x.about(0, -1));
-        CHECKS.noSuch("state what 7", () -> x.state(0, 7));
-        CHECKS.noSuch("state what -1", () -> x.state(0, -1));
     }
 }

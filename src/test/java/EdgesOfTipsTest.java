@@ -575,6 +575,11 @@ final class EdgesOfTipsTest {
         BinRounds x = town();
         x.gate(1, 0);
         CHECKS.due("the other cart's", x.load(0, 2), NONE);
+        BinRounds y = town();
+        y.gate(0, 0);
+        CHECKS.due("the other cart's", y.load(1, 2), NONE);
+        y.close();
+        CHECKS.due("cart 0's is none on the next day", y.load(0, 2), NONE);
         halves(x, 10, 3);
         x.close();
         CHECKS.due("none on the next day", x.load(1, 2), NONE);

@@ -14,7 +14,10 @@ final class LedgerTest {
     private static final Checks CHECKS = new Checks();
     private static final int RUNS = 600;
     private static final int CALLS = 512;
-    private static final int[] WILD = {Integer.MIN_VALUE, Integer.MAX_VALUE, -1, -2, 0, 699, 700, 1000, 1001, 100001};
+    private static final int[] WILD = {
+        Integer.MIN_VALUE, Integer.MAX_VALUE, -2, -1, 0, 1, 3, 4, 5, 99, 100, 499, 500, 699, 700, 1000, 1001, 100000, 100001,
+        200000, 200001, 1000000, 1000001,
+    };
 
     // Each call with what its arguments are: see argument(). A number before it: how often it is drawn.
     private static final String[] CALLS_OF_A_DAY = {
